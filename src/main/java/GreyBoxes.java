@@ -29,7 +29,7 @@ public final class GreyBoxes {
     private final RulesText rulesText;
     private final Facts facts;
     private final Known known;
-    private final Laws laws;
+    private final Laws[] laws;
     private final Span span;
     private final Blame blame;
     private final Trial trial;
@@ -46,7 +46,10 @@ public final class GreyBoxes {
         rulesText = new RulesText(tokens, hill, newRules);
         facts = new Facts();
         known = new Known(facts, hill);
-        laws = new Laws(facts, known, hill);
+        laws = new Laws[Hill.BOXES_MOST];
+        for (int box = 0; box < Hill.BOXES_MOST; box++) {
+            laws[box] = new Laws(facts, known, hill, box);
+        }
         span = new Span(laws, known, hill);
         blame = new Blame(laws, known, hill);
         trial = new Trial(rules, known, hill);
@@ -154,30 +157,30 @@ public final class GreyBoxes {
     }
 
     public int laws(int box, int day, int k) {
-        return fitted(box, day, k) ? laws.count : NONE;
+        return fitted(box, day, k) ? laws[box].count : NONE;
     }
 
     public int law(int box, int day, int i, int what, int k) {
-        if (!fitted(box, day, k)) {
+        if (!fitted(box, day, k) || i < 0 || i >= laws[box].count) {
             return GAP;
         }
-        return i >= 0 && i < laws.count ? Laws.part(laws.best[i], what) : GAP;
+        return Laws.part(laws[box].best[i], what);
     }
 
     public int misses(int box, int day, int k) {
-        return fitted(box, day, k) ? laws.fewest : NONE;
+        return fitted(box, day, k) ? laws[box].fewest : NONE;
     }
 
     public int shows(int box, int day, int k) {
-        return fitted(box, day, k) ? laws.byFirst(day) : GAP;
+        return fitted(box, day, k) ? laws[box].byFirst(day) : GAP;
     }
 
     public int frost(int box, int day, int k) {
-        return fitted(box, day, k) ? laws.frostDay : NONE;
+        return fitted(box, day, k) ? laws[box].frostDay : NONE;
     }
 
     public int shown(int box, int day, boolean high, int k) {
-        return fitted(box, day, k) ? laws.extreme(day, high) : GAP;
+        return fitted(box, day, k) ? laws[box].extreme(day, high) : GAP;
     }
 
     public int wrong(int box, int day, int k) {
@@ -251,9 +254,9 @@ public final class GreyBoxes {
         int best = NONE;
         int most = 0;
         for (int box = 0; box < hill.boxes; box++) {
-            laws.fit(box, DAYS - 1);
-            if (laws.count > most) {
-                most = laws.count;
+            laws[box].fit(DAYS - 1);
+            if (laws[box].count > most) {
+                most = laws[box].count;
                 best = box;
             }
         }
@@ -350,7 +353,7 @@ public final class GreyBoxes {
             return false;
         }
         known.at(k);
-        laws.fit(box, day);
+        laws[box].fit(day);
         return true;
     }
 
@@ -1196,44 +1199,43 @@ public final class GreyBoxes {
         }
     }
 
-    /** THE LAWS of one STRETCH at a time; a LAW is one number that holds its four parts in their order. */
+    /**
+     * THE LAWS of one BOX, of one STRETCH at a time. A LAW is one number that holds its four parts in their order; what
+     * is left of it without the zero is its bend.
+     */
     private static final class Laws {
         private static final int LAWS_MOST = 660;
-        private static final int LAGS = 3;
+        private static final int BENDS_MOST = 60;
 
         private final Facts facts;
         private final Known known;
         private final Hill hill;
+        private final int box;
         private int edition;
-        private int box;
         private int first;
         private int last;
-        private final int[] all;
+        private final int[] bends;
+        private final int[] bent;
+        private int bendCount;
         private final int[] missesOf;
-        private int size;
         final int[] best;
         int count;
         int fewest;
         int frostDay;
-        private final int[] distances;
-        private int age;
 
-        Laws(Facts facts, Known known, Hill hill) {
+        Laws(Facts facts, Known known, Hill hill, int box) {
             this.facts = facts;
             this.known = known;
             this.hill = hill;
-            all = new int[LAWS_MOST];
+            this.box = box;
+            bends = new int[BENDS_MOST];
+            bent = new int[BENDS_MOST];
             missesOf = new int[LAWS_MOST];
             best = new int[LAWS_MOST];
-            distances = new int[LAGS];
-        }
-
-        private static int joined(int zero, int slope, int lag, int tire) {
-            return (zero + 5) * 60 + (slope - 8) * 12 + lag * 4 + tire;
         }
 
         static int zeroOf(int law) {
-            return law / 60 - 5;
+            return law / BENDS_MOST - 5;
         }
 
         static int slopeOf(int law) {
@@ -1263,17 +1265,17 @@ public final class GreyBoxes {
             }
         }
 
-        void fit(int ofBox, int day) {
-            if (edition == known.edition && box == ofBox && first <= day && day <= last) {
+        void fit(int day) {
+            if (edition == known.edition && first <= day && day <= last) {
                 return;
             }
             edition = known.edition;
-            box = ofBox;
             first = hill.firstDay(box, day);
             last = hill.lastDay(box, day);
-            list();
+            listBends();
+            Arrays.fill(missesOf, 0);
             frostDay = GreyBoxes.NONE;
-            int clean = size;
+            int clean = bendCount * (hill.high(box, 0) - hill.low(box, 0) + 1);
             for (int d = first; d <= last; d++) {
                 int number = known.number(box, d);
                 if (number != GreyBoxes.GAP && facts.isShared(d)) {
@@ -1286,82 +1288,85 @@ public final class GreyBoxes {
             choose();
         }
 
-        private void list() {
-            size = 0;
-            for (int zero = hill.low(box, 0); zero <= hill.high(box, 0); zero++) {
-                for (int slope = hill.low(box, 1); slope <= hill.high(box, 1); slope++) {
-                    for (int lag = hill.low(box, 2); lag <= hill.high(box, 2); lag++) {
-                        for (int tire = hill.low(box, 3); tire <= hill.high(box, 3); tire++) {
-                            add(joined(zero, slope, lag, tire));
+        private void listBends() {
+            bendCount = 0;
+            for (int slope = hill.low(box, 1); slope <= hill.high(box, 1); slope++) {
+                for (int lag = hill.low(box, 2); lag <= hill.high(box, 2); lag++) {
+                    for (int tire = hill.low(box, 3); tire <= hill.high(box, 3); tire++) {
+                        if (bendCount < BENDS_MOST) {
+                            bends[bendCount] = (slope - 8) * 12 + lag * 4 + tire;
+                            bendCount++;
                         }
                     }
                 }
             }
         }
 
-        private void add(int law) {
-            if (size < LAWS_MOST) {
-                all[size] = law;
-                missesOf[size] = 0;
-                size++;
-            }
-        }
-
-        /** How many laws miss for the first time. */
+        /** How many laws miss for the first time. What does not hang on the zero is reckoned once for all zeros. */
         private int tryDay(int day, int number) {
-            look(day);
+            int age = hill.age(box, day);
+            for (int i = 0; i < bendCount; i++) {
+                bent[i] = withoutZero(bends[i], day, age);
+            }
             int fallen = 0;
-            for (int i = 0; i < size; i++) {
-                int shows = by(all[i]);
-                if (shows != GreyBoxes.GAP && !hill.fits(box, shows, number)) {
-                    fallen += missesOf[i] == 0 ? 1 : 0;
-                    missesOf[i]++;
+            int law = 0;
+            for (int zero = hill.low(box, 0); zero <= hill.high(box, 0); zero++) {
+                for (int i = 0; i < bendCount && law < LAWS_MOST; i++) {
+                    if (bent[i] != GreyBoxes.GAP && !hill.fits(box, zero + bent[i], number)) {
+                        fallen += missesOf[law] == 0 ? 1 : 0;
+                        missesOf[law]++;
+                    }
+                    law++;
                 }
             }
             return fallen;
         }
 
         private void choose() {
+            int size = bendCount * (hill.high(box, 0) - hill.low(box, 0) + 1);
             fewest = DAYS;
-            for (int i = 0; i < size; i++) {
-                fewest = Math.min(fewest, missesOf[i]);
+            for (int law = 0; law < size && law < LAWS_MOST; law++) {
+                fewest = Math.min(fewest, missesOf[law]);
             }
             count = 0;
-            for (int i = 0; i < size; i++) {
-                if (missesOf[i] == fewest) {
-                    best[count] = all[i];
-                    count++;
+            int law = 0;
+            for (int zero = hill.low(box, 0); zero <= hill.high(box, 0); zero++) {
+                for (int i = 0; i < bendCount && law < LAWS_MOST; i++) {
+                    if (missesOf[law] == fewest) {
+                        best[count] = (zero + 5) * BENDS_MOST + bends[i];
+                        count++;
+                    }
+                    law++;
                 }
             }
         }
 
-        private void look(int day) {
-            age = hill.age(box, day);
-            for (int lag = 0; lag < LAGS; lag++) {
-                distances[lag] = known.distant(hill.quantities[box], day - lag);
-            }
-        }
-
-        /** What the BOX SHOWS by a LAW on the DAY looked at. */
-        private int by(int law) {
-            int distance = distances[lagOf(law)];
+        private int withoutZero(int law, int day, int age) {
+            int distance = known.distant(hill.quantities[box], day - lagOf(law));
             if (distance == GreyBoxes.GAP) {
                 return GreyBoxes.GAP;
             }
-            int shows = zeroOf(law) + Math.floorDiv(slopeOf(law) * distance, 10) + tireOf(law) * age / 10;
+            return Math.floorDiv(slopeOf(law) * distance, 10) + tireOf(law) * age / 10;
+        }
+
+        private int by(int law, int day, int age) {
+            int rest = withoutZero(law, day, age);
+            if (rest == GreyBoxes.GAP) {
+                return GreyBoxes.GAP;
+            }
+            int shows = zeroOf(law) + rest;
             return hill.isWind(box) ? Math.floorMod(shows, ROUND) : shows;
         }
 
         int byFirst(int day) {
-            look(day);
-            return count > 0 ? by(best[0]) : GreyBoxes.GAP;
+            return count > 0 ? by(best[0], day, hill.age(box, day)) : GreyBoxes.GAP;
         }
 
         int extreme(int day, boolean high) {
-            look(day);
+            int age = hill.age(box, day);
             int found = GreyBoxes.GAP;
             for (int i = 0; i < count; i++) {
-                int shows = by(best[i]);
+                int shows = by(best[i], day, age);
                 if (shows != GreyBoxes.GAP) {
                     boolean further = high ? shows > found : shows < found;
                     found = found == GreyBoxes.GAP || further ? shows : found;
@@ -1373,7 +1378,7 @@ public final class GreyBoxes {
 
     /** RIGHT of a BOX on a DAY, and what is told by comparing such spans. */
     private static final class Span {
-        private final Laws laws;
+        private final Laws[] laws;
         private final Known known;
         private final Hill hill;
         private final int[] lows;
@@ -1381,7 +1386,7 @@ public final class GreyBoxes {
         int least;
         int greatest;
 
-        Span(Laws laws, Known known, Hill hill) {
+        Span(Laws[] laws, Known known, Hill hill) {
             this.laws = laws;
             this.known = known;
             this.hill = hill;
@@ -1395,7 +1400,7 @@ public final class GreyBoxes {
             for (int lag = hill.low(box, Hill.LAG); lag <= hill.high(box, Hill.LAG); lag++) {
                 int number = known.number(box, day + lag);
                 if (number != GreyBoxes.GAP) {
-                    laws.fit(box, day + lag);
+                    laws[box].fit(day + lag);
                     widen(box, day, lag, number);
                 }
             }
@@ -1404,8 +1409,8 @@ public final class GreyBoxes {
 
         private void widen(int box, int day, int lag, int number) {
             int age = hill.age(box, day + lag);
-            for (int i = 0; i < laws.count; i++) {
-                int law = laws.best[i];
+            for (int i = 0; i < laws[box].count; i++) {
+                int law = laws[box].best[i];
                 if (Laws.lagOf(law) == lag) {
                     int shift = Laws.zeroOf(law) + Laws.tireOf(law) * age / 10;
                     if (hill.isWind(box)) {
@@ -1507,14 +1512,14 @@ public final class GreyBoxes {
 
     /** Which READINGS are WRONG, how, and by whose HABIT. */
     private static final class Blame {
-        private final Laws laws;
+        private final Laws[] laws;
         private final Known known;
         private final Hill hill;
         private final int[] firstShows;
         private final int[] of;
         final int[] bad;
 
-        Blame(Laws laws, Known known, Hill hill) {
+        Blame(Laws[] laws, Known known, Hill hill) {
             this.laws = laws;
             this.known = known;
             this.hill = hill;
@@ -1529,8 +1534,8 @@ public final class GreyBoxes {
                 for (int day = from; day <= to; day++) {
                     int shows = GreyBoxes.GAP;
                     if (known.number(box, day) != GreyBoxes.GAP) {
-                        laws.fit(box, day);
-                        shows = laws.byFirst(day);
+                        laws[box].fit(day);
+                        shows = laws[box].byFirst(day);
                     }
                     firstShows[box * DAYS + day] = shows;
                 }
