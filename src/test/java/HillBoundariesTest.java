@@ -104,6 +104,8 @@ public final class HillBoundariesTest {
             refused(line + "59 to 58;", 4, line.length() + 6);
             refused(line + "1 to 0;", 4, line.length() + 5);
             refused(line + "-1 to 0;", 2, line.length());
+            refused(line + "0 to -0;", 2, line.length() + 5);
+            refused(line + "0 to - 1;", 2, line.length() + 5);
         }
     }
 
@@ -196,6 +198,23 @@ public final class HillBoundariesTest {
         refused("madeto", 2, 0);
         refused("box a warm zero 0 to 0 slope 1 0", 4, 29);
         taken("box a warm zero-5 to-5 slope8 to8 lag0 to0 tire0 to0 off0;", 1);
+    }
+
+    /** No letter directly behind an N; any other byte is a TOKEN of its own, or none. */
+    private static void everyByteBehindANumber() {
+        for (int b = 0; b < 256; b++) {
+            char c = (char) b;
+            String text = "made 0 to 5" + c + ";";
+            if (c == ' ' || c == '\n' || c >= '0' && c <= '9') {
+                taken(text, 1);
+            } else if (c >= 'a' && c <= 'z') {
+                refused(text, 1, 10);
+            } else if (c == ';') {
+                refused(text, 2, 12);
+            } else {
+                refused(text, c == '-' ? 2 : 1, 11);
+            }
+        }
     }
 
     private static void everyByte() {
@@ -333,6 +352,7 @@ public final class HillBoundariesTest {
         namesToldAhead();
         numbersAndBlanks();
         everyByte();
+        everyByteBehindANumber();
         grammar();
         theFirstByItsPlace();
         allIsNewThen();

@@ -349,6 +349,54 @@ public final class LawBoundariesTest {
         Check.due("19: one is without", x.frost(0, 0, 0), NONE);
     }
 
+    /** Two READINGS which one LAW of a range FITS, or none: on either side of each range that can be. */
+    private static void frostOfEachRange() {
+        for (int low = -5; low <= 5; low++) {
+            for (int high = low; high <= 5; high++) {
+                GreyBoxes x = with(box("warm", low + " to " + high, "10 to 10", "0 to 0", "0 to 0", 1));
+                String zero = low + " to " + high;
+                x.far(0, 3, 20);
+                x.read(0, 3, 0, 20 + high + 1);
+                x.share(3, true);
+                Check.due("19: zero " + zero + " FITS above", x.frost(0, 0, 0), NONE);
+                x.read(0, 3, 0, 20 + low - 1);
+                Check.due("19: zero " + zero + " FITS below", x.frost(0, 0, 0), NONE);
+                Check.due("15: zero " + zero + " FITS below", x.laws(0, 0, 0), 1);
+                x.read(0, 3, 0, 20 + high + 2);
+                Check.due("19: above zero " + zero, x.frost(0, 0, 0), 3);
+                x.read(0, 3, 0, 20 + low - 2);
+                Check.due("19: below zero " + zero, x.frost(0, 0, 0), 3);
+                Check.due("15: all miss by zero " + zero, x.laws(0, 0, 0), high - low + 1);
+            }
+        }
+    }
+
+    /** All 660 LAWS at once: of what is told but one is without MISSES. */
+    private static void allLawsButOne() {
+        GreyBoxes x = with(box("damp", "-5 to 5", "8 to 12", "0 to 2", "0 to 3", 0));
+        for (int day = 0; day < 60; day++) {
+            x.far(1, day, day * 37 % 101);
+            x.share(day, true);
+        }
+        for (int day = 2; day < 60; day++) {
+            x.read(0, day, 0, 5 + Math.floorDiv(12 * ((day - 2) * 37 % 101), 10) + 3 * day / 10);
+        }
+        Check.due("15: the last LAW alone", x.laws(0, 0, 0), 1);
+        Check.due("17: it has no MISSES", x.misses(0, 0, 0), 0);
+        Check.due("19: no FROST", x.frost(0, 0, 0), NONE);
+        Check.due("16: zero", x.law(0, 0, 0, 0, 0), 5);
+        Check.due("16: slope", x.law(0, 0, 0, 1, 0), 12);
+        Check.due("16: lag", x.law(0, 0, 0, 2, 0), 2);
+        Check.due("16: tire", x.law(0, 0, 0, 3, 0), 3);
+        Check.due("16: no second one", x.law(0, 0, 1, 0, 0), GAP);
+        x.read(0, 59, 0, 900);
+        Check.due("19: FROST on the last DAY", x.frost(0, 0, 0), 59);
+        Check.due("17: one MISS", x.misses(0, 0, 0), 1);
+        x.untell(x.about(2) - 1);
+        x.read(0, 2, 0, 900);
+        Check.due("19: FROST on the first DAY that SHOWS by all", x.frost(0, 0, 0), 2);
+    }
+
     /** A LAW that SHOWS nothing on a DAY has no MISS there. */
     private static void lagsThatShowNothing() {
         GreyBoxes x = with(box("warm", "0 to 0", "10 to 10", "0 to 1", "0 to 0", 0));
@@ -385,6 +433,8 @@ public final class LawBoundariesTest {
         whichReadingsMiss();
         mostMisses();
         frosts();
+        frostOfEachRange();
+        allLawsButOne();
         lagsThatShowNothing();
         Check.finish();
     }

@@ -143,6 +143,22 @@ public final class RightBoundariesTest {
         Check.due("21: ROW of wind", x.wrong(0, 5, 0), 3);
     }
 
+    /** Off 9 of wind FITS all that is there, but not what is not. */
+    private static void rowsOfNothing() {
+        GreyBoxes x = with(plain("t", "warm", 0) + plain("w", "wind", 9));
+        x.far(0, 5, 10);
+        x.read(0, 5, 0, 3);
+        x.read(1, 5, 0, 10);
+        Check.due("21: the other BOX SHOWS nothing", x.wrong(0, 5, 0), 5);
+        x.far(3, 5, 2);
+        Check.due("21: the other BOX SHOWS something", x.wrong(0, 5, 0), 3);
+        x.untell(2);
+        Check.due("21: the other BOX has no READING", x.wrong(0, 5, 0), 5);
+        x.read(1, 4, 0, 10);
+        x.read(1, 6, 0, 10);
+        Check.due("21: on another DAY", x.wrong(0, 5, 0), 5);
+    }
+
     private static void twices() {
         GreyBoxes x = with(plain("r", "rain", 1) + plain("t", "warm", 1));
         x.far(2, 5, 20);
@@ -250,6 +266,39 @@ public final class RightBoundariesTest {
             Scene.untouchedBy("22: another what", y -> y.habit(what, 7));
         }
         Scene.untouchedBy("22: asking", y -> y.habit(1, 5));
+    }
+
+    /** One reader for each way to be WRONG, and one who is RIGHT: each is asked for with the others DOUBTED. */
+    private static void habitByEachKind() {
+        GreyBoxes x = with(plain("w", "wind", 0) + plain("r", "rain", 0) + plain("t", "warm", 0));
+        x.far(3, 5, 3);
+        x.read(0, 5, 1, 11);
+        x.far(2, 11, 7);
+        x.read(1, 10, 0, 9);
+        x.read(1, 11, 2, 9);
+        x.far(2, 20, 7);
+        x.far(0, 20, 30);
+        x.read(1, 20, 3, 30);
+        x.read(2, 20, 0, 7);
+        x.far(2, 30, 8);
+        x.read(1, 30, 4, 4);
+        x.far(2, 40, 8);
+        x.read(1, 40, 5, 50);
+        x.far(2, 50, 8);
+        x.read(1, 50, 6, 8);
+        int[][] spots = {{0, 5}, {1, 11}, {1, 20}, {1, 30}, {1, 40}, {1, 50}};
+        for (int reader = 0; reader < 7; reader++) {
+            x.doubt(reader, reader > 0);
+        }
+        for (int reader = 1; reader < 7; reader++) {
+            x.doubt(reader, false);
+            int kind = reader == 6 ? 0 : reader;
+            Check.due("21: kind " + kind, x.wrong(spots[reader - 1][0], spots[reader - 1][1], 0), kind);
+            x.doubt(0, true);
+            habit(x, "WRONG by kind " + kind + " or, without the other one's READING, by 5", reader, kind > 0 ? 1 : 0);
+            x.doubt(0, false);
+            x.doubt(reader, true);
+        }
     }
 
     /** The READING that was TOLD last is its reader's; one whose place it took is nobody's. */
@@ -540,9 +589,11 @@ public final class RightBoundariesTest {
         copies();
         rows();
         rowsOfWind();
+        rowsOfNothing();
         twices();
         wrongOrNone();
         habits();
+        habitByEachKind();
         habitOfTheLast();
         rights();
         rightsOfWind();

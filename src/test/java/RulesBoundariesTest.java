@@ -94,6 +94,12 @@ public final class RulesBoundariesTest {
         refused(sixty + "+ last a say wet;", 2, sixty.length() + 2);
         refused(sixty + "+(1) say wet;", 2, sixty.length() + 1);
         refused(sixty + "+$", 1, sixty.length() + 1);
+        refused(sixty + "+ say wet;", 2, sixty.length() + 2);
+        refused(sixty + "++1 say wet;", 2, sixty.length() + 1);
+        refused(sixty + "* *1 say wet;", 2, sixty.length() + 2);
+        refused(sixty + " and say wet;", 2, sixty.length() + 5);
+        refused(sixty + " or say wet;", 2, sixty.length() + 4);
+        refused(sixty + "=say wet;", 2, sixty.length() + 1);
         refused(sixty + " and not 1 say wet;", 2, sixty.length() + 9);
         refused(sixty + " say wet;if 1 say wet;", 2, sixty.length() + 12);
         refused(sixty.substring(0, sixty.length() - 1) + "(1) say wet;", 2, sixty.length());
@@ -181,6 +187,22 @@ public final class RulesBoundariesTest {
         refused("if -1 say wet;", 2, 3);
         refused("if 1+-1 say wet;", 2, 5);
         refused("ifa say wet;", 2, 0);
+    }
+
+    private static void everyByteBehindANumber() {
+        for (int b = 0; b < 256; b++) {
+            char c = (char) b;
+            String text = "if 1" + c + "1 say wet;";
+            if (c >= 'a' && c <= 'z') {
+                refused(text, 1, 3);
+            } else if (c == ' ' || c == '\n') {
+                refused(text, 2, 5);
+            } else if (c >= '0' && c <= '9' || "<>=+-*".indexOf(c) >= 0) {
+                taken(text, 1);
+            } else {
+                refused(text, SIGNS.indexOf(c) >= 0 ? 2 : 1, 4);
+            }
+        }
     }
 
     private static void everyByte() {
@@ -380,6 +402,7 @@ public final class RulesBoundariesTest {
         words();
         numbers();
         everyByte();
+        everyByteBehindANumber();
         grammar();
         whatIsReckoned();
         wrapping();
