@@ -158,6 +158,9 @@ public final class LawBoundariesTest {
         ageOn("moved a on 30;fresh a on 30;", 40, 10);
         ageOn("fresh b on 30;moved b on 31;", 40, 40);
         ageOn("made 30 to 35;holiday 30 to 30;", 40, 40);
+        ageOn("broken a 30 to 35;", 40, 40);
+        ageOn("broken a 30 to 35;", 30, 30);
+        ageOn("fresh a on 20;broken a 25 to 30;", 39, 19);
     }
 
     private static void showing(String quantity, int q, String law, int day, int far, int want) {

@@ -174,8 +174,9 @@ public final class TrialBoundariesTest {
         x.far(2, 2, 0);
         x.far(2, 3, 0);
         x.far(2, 4, 0);
-        tried(x, "one wet of four", 4, 3, 0);
+        // LUCK is asked for first: it does not hang on what was asked ahead of it.
         luck(x, "2 of 4", 1, 2);
+        tried(x, "one wet of four", 4, 3, 0);
         x.far(2, 3, 1);
         // Two wet of four, two RIGHT: all but the one choice of both of which dry was said.
         tried(x, "two wet of four", 4, 2, 0);
