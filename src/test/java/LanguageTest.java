@@ -37,6 +37,17 @@ public final class LanguageTest {
         }
     }
 
+    private static void fieldsAreFew(Class<?> c) {
+        int fields = 0;
+        for (java.lang.reflect.Field f : c.getDeclaredFields()) {
+            int how = f.getModifiers();
+            boolean constant = java.lang.reflect.Modifier.isStatic(how);
+            fields += constant ? 0 : 1;
+            Check.due(f + " is final if static", !constant || java.lang.reflect.Modifier.isFinal(how), true);
+        }
+        Check.due("some twenty fields of " + c.getName(), fields <= 20, true);
+    }
+
     public static void main(String[] args) throws Exception {
         String source = Files.readString(Path.of("src/main/java/GreyBoxes.java"));
         String code = source.replaceAll("/\\*\\*.*?\\*/", "").replaceAll("//[^\n]*", "");
@@ -60,8 +71,10 @@ public final class LanguageTest {
             Check.due(m.getName() + " is public or private", face || java.lang.reflect.Modifier.isPrivate(m.getModifiers()), true);
             Check.due(m.getName() + " takes few", m.getParameterCount() <= 7, true);
         }
-        Check.due("some twelve classes", GreyBoxes.class.getDeclaredClasses().length <= 12, true);
+        Check.due("some twelve classes", 1 + GreyBoxes.class.getDeclaredClasses().length <= 12, true);
+        fieldsAreFew(GreyBoxes.class);
         for (Class<?> c : GreyBoxes.class.getDeclaredClasses()) {
+            fieldsAreFew(c);
             for (java.lang.reflect.Method m : c.getDeclaredMethods()) {
                 for (java.lang.reflect.Method p : GreyBoxes.class.getMethods()) {
                     boolean ours = p.getDeclaringClass() == GreyBoxes.class;
